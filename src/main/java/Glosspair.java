@@ -33,9 +33,6 @@ public final class Glosspair {
     private static final int ANSWERERS = PLACES + 1;
 
     private final Corpus corpus;
-    private final Lexicon forward;
-    private final Lexicon backward;
-    private final Weights weights;
     private final Linker linker;
     private final Alignment alignment;
     private final PhraseSearch search;
@@ -45,10 +42,7 @@ public final class Glosspair {
     /** Creates an aligner without pairs; both drafts are empty. */
     public Glosspair() {
         corpus = new Corpus();
-        forward = new Lexicon(0);
-        backward = new Lexicon(1);
-        weights = new Weights();
-        linker = new Linker(forward, backward, weights);
+        linker = new Linker();
         alignment = new Alignment();
         search = new PhraseSearch();
         likelihood = new Likelihood();
@@ -129,7 +123,7 @@ public final class Glosspair {
      * @return how many shares are above 0 then, in both directions, together
      */
     public int begin() {
-        return forward.start(corpus) + backward.start(corpus);
+        return linker.lexicon(0).start(corpus) + linker.lexicon(1).start(corpus);
     }
 
     /**
@@ -138,7 +132,7 @@ public final class Glosspair {
      * @return how many shares are other ones by it, in both directions, together
      */
     public int round() {
-        return forward.learn(corpus) + backward.learn(corpus);
+        return linker.lexicon(0).learn(corpus) + linker.lexicon(1).learn(corpus);
     }
 
     /**
@@ -158,9 +152,7 @@ public final class Glosspair {
         if (weight < 0 || weight > HIGHEST_WEIGHT) {
             throw new IllegalArgumentException("weight is out of range");
         }
-        int before = weights.at(apart);
-        weights.set(apart, weight);
-        return before;
+        return linker.setWeight(apart, weight);
     }
 
     // ---- what is asked
@@ -201,7 +193,7 @@ public final class Glosspair {
         if (!isSide(direction) || !(isWord(word) || word == EMPTY) || !isWord(other)) {
             throw new IndexOutOfBoundsException("no such direction or word");
         }
-        return lexicon(direction).shareOf(word, other);
+        return linker.lexicon(direction).shareOf(word, other);
     }
 
     /**
@@ -320,7 +312,7 @@ public final class Glosspair {
      * @throws IllegalStateException if its sentence of the side 1 has more than 4 words
      */
     public long total(int pair) throws IndexOutOfBoundsException, IllegalStateException {
-        likelihood.consider(shortPair(pair), forward);
+        likelihood.consider(shortPair(pair), linker.lexicon(0));
         return likelihood.productOfSums();
     }
 
@@ -334,7 +326,7 @@ public final class Glosspair {
      * @throws IllegalStateException if its sentence of the side 1 has more than 4 words
      */
     public long totalAnew(int pair) throws IndexOutOfBoundsException, IllegalStateException {
-        likelihood.consider(shortPair(pair), forward);
+        likelihood.consider(shortPair(pair), linker.lexicon(0));
         return likelihood.sumOfProducts();
     }
 
@@ -346,10 +338,6 @@ public final class Glosspair {
 
     private static boolean isWord(int word) {
         return word >= 0 && word < WORDS;
-    }
-
-    private Lexicon lexicon(int direction) {
-        return direction == 0 ? forward : backward;
     }
 
     private SentencePair pairThatIsThere(int number) throws IndexOutOfBoundsException {
@@ -673,10 +661,13 @@ public final class Glosspair {
             return apart >= 0 && apart < values.length ? values[apart] : 0;
         }
 
-        void set(int apart, int value) {
+        /** Tells the one before. */
+        int replace(int apart, int value) {
+            int before = at(apart);
             if (apart >= 0 && apart < values.length) {
                 values[apart] = value;
             }
+            return before;
         }
 
         int between(int place, int other) {
@@ -688,21 +679,24 @@ public final class Glosspair {
         }
     }
 
-    /** Links places by the shares and the weights as they are when it is asked. */
+    /** Holds what links go by, and links places by it as it is when it is asked. */
     private static final class Linker {
-        private final Lexicon forward;
-        private final Lexicon backward;
-        private final Weights weights;
+        private final Lexicon forward = new Lexicon(0);
+        private final Lexicon backward = new Lexicon(1);
+        private final Weights weights = new Weights();
 
-        Linker(Lexicon forward, Lexicon backward, Weights weights) {
-            this.forward = forward;
-            this.backward = backward;
-            this.weights = weights;
+        Lexicon lexicon(int direction) {
+            return direction == 0 ? forward : backward;
+        }
+
+        /** Tells the one before. */
+        int setWeight(int apart, int value) {
+            return weights.replace(apart, value);
         }
 
         /** Answers the place of the side that answers, for a place of the other side, or NONE. */
         int answerFor(int direction, SentencePair pair, int place) {
-            Lexicon lexicon = direction == 0 ? forward : backward;
+            Lexicon lexicon = lexicon(direction);
             Sentence answering = pair.ofSide(direction);
             int other = pair.ofSide(1 - direction).at(place);
             int best = NONE;
@@ -798,8 +792,9 @@ public final class Glosspair {
         }
 
         private boolean isToJoin(int place, int other) {
-            boolean isWaiting = (bitsAt(either, place) & bitOf(other)) != 0 && !hasJoined(place, other);
-            return isWaiting
+            boolean isTold = (bitsAt(either, place) & bitOf(other)) != 0;
+            return isTold
+                    && !hasJoined(place, other)
                     && (joinedBits(place) == 0 || isFree(other))
                     && isBesideJoined(place, other);
         }

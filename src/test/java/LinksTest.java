@@ -222,6 +222,12 @@ final class LinksTest {
         links(aligner, 1, 2, 0);
         // From (0,2) grows (0,1), from that across (1,0); (0,0) comes too late, its places are taken.
         joined(aligner, ".xx", "x..");
+        Glosspair wide = alike(2, 4);
+        weigh(wide, 1, 0, 2, 2, 0);
+        links(wide, 0, 0, 1, 0, 0);
+        links(wide, 1, 2, 3);
+        // From (0,2) grow (0,3) and (1,1), from that (0,0); (1,3) comes too late.
+        joined(wide, "x.xx", ".x..");
     }
 
     private static void joinedGrowWhereOnePlaceIsFree() {

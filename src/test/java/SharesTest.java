@@ -8,6 +8,7 @@ final class SharesTest {
         beginGoesByPairsThatAreThere();
         pairsAloneChangeNoShare();
         roundGivesNewShares();
+        roundTakesTheFirstAndTheLastWords();
         roundCountsAWordAtTwoPlacesTwice();
         roundGoesByTheSharesAhead();
         roundGivesWhatIsMissingToTheGreatestRests();
@@ -130,6 +131,22 @@ final class SharesTest {
         Check.pairOf(settled, Check.words(0), Check.words(3));
         settled.begin();
         Check.equal("a round that changes nothing", settled.round(), 0);
+    }
+
+    private static void roundTakesTheFirstAndTheLastWords() {
+        Glosspair aligner = new Glosspair();
+        Check.pairOf(aligner, Check.words(0, 14), Check.words(0, 14));
+        Check.pairOf(aligner, Check.words(0), Check.words(0));
+        Check.equal("begin()", aligner.begin(), 12);
+        Check.equal("round()", aligner.round(), 8);
+        for (int direction = 0; direction < 2; direction++) {
+            Check.equal("0 for 0", aligner.share(direction, 0, 0), 714286);
+            Check.equal("0 for 14", aligner.share(direction, 0, 14), 285714);
+            Check.equal("14 for 0", aligner.share(direction, 14, 0), 500000);
+            Check.equal("14 for 14", aligner.share(direction, 14, 14), 500000);
+            Check.equal("EMPTY for 0", aligner.share(direction, Glosspair.EMPTY, 0), 714286);
+            Check.equal("EMPTY for 14", aligner.share(direction, Glosspair.EMPTY, 14), 285714);
+        }
     }
 
     private static void roundCountsAWordAtTwoPlacesTwice() {
