@@ -6,16 +6,26 @@ final class Check {
 
     private static int wrong = 0;
     private static int asked = 0;
+    private static String about = "";
 
     private Check() {
+    }
+
+    /** Says for which sentence of the document all is asked from here on. */
+    static void about(int promise, String sentence) {
+        about = "promise " + promise + " (" + sentence + "): ";
     }
 
     static void equal(String what, long got, long due) {
         asked++;
         if (got != due) {
-            wrong++;
-            System.out.println(what + " answered " + got + ", due is " + due);
+            tell(what + " answered " + got + ", due is " + due);
         }
+    }
+
+    private static void tell(String what) {
+        wrong++;
+        System.out.println(about + what);
     }
 
     static void isTrue(String what, boolean holds) {
@@ -27,12 +37,10 @@ final class Check {
         asked++;
         try {
             long got = call.answer();
-            wrong++;
-            System.out.println(what + " answered " + got + ", due is " + due.getSimpleName());
+            tell(what + " answered " + got + ", due is " + due.getSimpleName());
         } catch (RuntimeException e) {
             if (e.getClass() != due) {
-                wrong++;
-                System.out.println(what + " threw " + e + ", due is " + due.getSimpleName());
+                tell(what + " threw " + e + ", due is " + due.getSimpleName());
             }
         }
     }
@@ -47,21 +55,6 @@ final class Check {
 
     static void illegalArgument(String what, Call call) {
         throwing(what, IllegalArgumentException.class, call);
-    }
-
-    /** Makes a pair of these sentences; tells its number. */
-    static int pairOf(Glosspair aligner, int[] first, int[] second) {
-        for (int word : first) {
-            aligner.put(0, word);
-        }
-        for (int word : second) {
-            aligner.put(1, word);
-        }
-        return aligner.pair();
-    }
-
-    static int[] words(int... words) {
-        return words;
     }
 
     static void end() {

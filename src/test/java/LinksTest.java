@@ -22,22 +22,6 @@ final class LinksTest {
         Check.end();
     }
 
-    /** A pair of alike shares, so that links go by weights alone. */
-    private static Glosspair alike(int first, int second) {
-        Glosspair aligner = new Glosspair();
-        int[] firstWords = new int[first];
-        int[] secondWords = new int[second];
-        Check.pairOf(aligner, firstWords, secondWords);
-        aligner.begin();
-        return aligner;
-    }
-
-    private static void weigh(Glosspair aligner, int... weights) {
-        for (int apart = 0; apart < weights.length; apart++) {
-            aligner.weight(apart, weights[apart]);
-        }
-    }
-
     private static void links(Glosspair aligner, int direction, int... due) {
         for (int place = 0; place < due.length; place++) {
             String what = "link(" + direction + ", 0, " + place + ")";
@@ -87,13 +71,13 @@ final class LinksTest {
 
     private static void linkGoesToTheGreatest() {
         Glosspair aligner = new Glosspair();
-        Check.pairOf(aligner, Check.words(0, 1), Check.words(5, 6));
-        Check.pairOf(aligner, Check.words(1), Check.words(5));
+        Made.pairOf(aligner, Made.words(0, 1), Made.words(5, 6));
+        Made.pairOf(aligner, Made.words(1), Made.words(5));
         aligner.begin();
         for (int round = 0; round < 20; round++) {
             aligner.round();
         }
-        weigh(aligner, 1, 1, 1, 1, 0);
+        Made.weigh(aligner, 1, 1, 1, 1, 0);
         links(aligner, 0, 1, 0);
         links(aligner, 1, 1, 0);
         joined(aligner, ".x", "x.");
@@ -101,29 +85,29 @@ final class LinksTest {
     }
 
     private static void linkGoesByHowFarApart() {
-        Glosspair aligner = alike(8, 8);
-        weigh(aligner, 4, 3, 2, 1, 1);
+        Glosspair aligner = Made.alike(8, 8);
+        Made.weigh(aligner, 4, 3, 2, 1, 1);
         links(aligner, 0, 0, 1, 2, 3, 4, 5, 6, 7);
-        weigh(aligner, 0, 9, 8, 7);
+        Made.weigh(aligner, 0, 9, 8, 7);
         links(aligner, 0, 1, 0, 1, 2, 3, 4, 5, 6);
-        weigh(aligner, 0, 0, 9, 8);
+        Made.weigh(aligner, 0, 0, 9, 8);
         links(aligner, 0, 2, 3, 0, 1, 2, 3, 4, 5);
-        weigh(aligner, 0, 0, 0, 9);
+        Made.weigh(aligner, 0, 0, 0, 9);
         links(aligner, 0, 3, 4, 5, 0, 0, 0, 0, 0);
         links(aligner, 1, 3, 4, 5, 0, 0, 0, 0, 0);
     }
 
     private static void linkGoesToTheLowestOfSeveral() {
-        Glosspair aligner = alike(3, 2);
-        weigh(aligner, 2, 2, 2, 2);
+        Glosspair aligner = Made.alike(3, 2);
+        Made.weigh(aligner, 2, 2, 2, 2);
         links(aligner, 0, 0, 0);
         links(aligner, 1, 0, 0, 0);
     }
 
     private static void linkGoesToNoneForEmpty() {
-        Glosspair aligner = alike(2, 1);
+        Glosspair aligner = Made.alike(2, 1);
         // All shares are a million: EMPTY's must be greater still.
-        weigh(aligner, 4, 3, 2, 1, 4);
+        Made.weigh(aligner, 4, 3, 2, 1, 4);
         links(aligner, 0, 0);
         links(aligner, 1, 0, Glosspair.NONE);
         aligner.weight(4, 5);
@@ -133,18 +117,18 @@ final class LinksTest {
 
     private static void linkGoesToNoneWithoutShares() {
         Glosspair aligner = new Glosspair();
-        Check.pairOf(aligner, Check.words(0), Check.words(0));
+        Made.pairOf(aligner, Made.words(0), Made.words(0));
         aligner.weight(4, 0);
         links(aligner, 0, Glosspair.NONE);
         aligner.begin();
         links(aligner, 0, 0);
-        weigh(aligner, 0, 9, 9, 9, 0);
+        Made.weigh(aligner, 0, 9, 9, 9, 0);
         links(aligner, 0, Glosspair.NONE);
         joined(aligner, ".");
     }
 
     private static void linkRefusesWhatIsNotThere() {
-        Glosspair aligner = alike(3, 2);
+        Glosspair aligner = Made.alike(3, 2);
         for (int number : NO_NUMBERS) {
             Check.outOfBounds("link direction " + number, () -> aligner.link(number, 0, 0));
             Check.outOfBounds("link of pair " + number, () -> aligner.link(0, number, 0));
@@ -159,22 +143,22 @@ final class LinksTest {
     }
 
     private static void joinedAreThoseOfBothDirections() {
-        Glosspair aligner = alike(3, 3);
+        Glosspair aligner = Made.alike(3, 3);
         joined(aligner, "x..", ".x.", "..x");
-        weigh(aligner, 0, 0, 1, 0, 0);
+        Made.weigh(aligner, 0, 0, 1, 0, 0);
         joined(aligner, "..x", "...", "x..");
         Glosspair none = new Glosspair();
-        Check.pairOf(none, Check.words(0), Check.words(0));
+        Made.pairOf(none, Made.words(0), Made.words(0));
         joined(none, ".");
     }
 
     private static void joinedGrowNotFromNone() {
         Glosspair aligner = new Glosspair();
-        Check.pairOf(aligner, Check.words(0), Check.words(5));
-        Check.pairOf(aligner, Check.words(1, 2, 3, 4, 5, 6, 7, 8), Check.words(6));
-        Check.pairOf(aligner, Check.words(9, 10), Check.words(6));
+        Made.pairOf(aligner, Made.words(0), Made.words(5));
+        Made.pairOf(aligner, Made.words(1, 2, 3, 4, 5, 6, 7, 8), Made.words(6));
+        Made.pairOf(aligner, Made.words(9, 10), Made.words(6));
         aligner.begin();
-        weigh(aligner, 1, 1, 1, 1, 9);
+        Made.weigh(aligner, 1, 1, 1, 1, 9);
         // EMPTY has a half for 5, but an eleventh for 0, so that one direction alone links them.
         links(aligner, 0, Glosspair.NONE);
         links(aligner, 1, 0);
@@ -182,24 +166,24 @@ final class LinksTest {
     }
 
     private static void joinedGrowAgainAndAgain() {
-        Glosspair aligner = alike(4, 1);
+        Glosspair aligner = Made.alike(4, 1);
         // The side 1's place is linked to the farthest place, and each place of the side 0 to it.
-        weigh(aligner, 1, 2, 3, 9, 0);
+        Made.weigh(aligner, 1, 2, 3, 9, 0);
         links(aligner, 0, 3);
         links(aligner, 1, 0, 0, 0, 0);
         joined(aligner, "x", "x", "x", "x");
-        Glosspair other = alike(1, 4);
-        weigh(other, 1, 2, 3, 9, 0);
+        Glosspair other = Made.alike(1, 4);
+        Made.weigh(other, 1, 2, 3, 9, 0);
         links(other, 1, 3);
         joined(other, "xxxx");
     }
 
     private static void joinedGrowAtOnce() {
-        Glosspair aligner = alike(8, 1);
+        Glosspair aligner = Made.alike(8, 1);
         joined(aligner, "x", "x", "x", "x", "x", "x", "x", "x");
-        Glosspair other = alike(1, 8);
+        Glosspair other = Made.alike(1, 8);
         joined(other, "xxxxxxxx");
-        Glosspair wide = alike(2, 5);
+        Glosspair wide = Made.alike(2, 5);
         links(wide, 0, 0, 1, 1, 1, 0);
         links(wide, 1, 0, 1);
         // (0,4) is reached across from (1,3), so only when all are gone through again.
@@ -207,23 +191,23 @@ final class LinksTest {
     }
 
     private static void joinedGrowNotAcrossAGap() {
-        Glosspair aligner = alike(3, 1);
+        Glosspair aligner = Made.alike(3, 1);
         // The middle place has no link, so that the last one is beside no joined one.
-        weigh(aligner, 9, 0, 5, 0, 0);
+        Made.weigh(aligner, 9, 0, 5, 0, 0);
         links(aligner, 0, 0);
         links(aligner, 1, 0, Glosspair.NONE, 0);
         joined(aligner, "x", ".", ".");
     }
 
     private static void joinedGrowNotWhereBothPlacesAreTaken() {
-        Glosspair aligner = alike(2, 3);
-        weigh(aligner, 1, 1, 2, 0, 0);
+        Glosspair aligner = Made.alike(2, 3);
+        Made.weigh(aligner, 1, 1, 2, 0, 0);
         links(aligner, 0, 0, 0, 0);
         links(aligner, 1, 2, 0);
         // From (0,2) grows (0,1), from that across (1,0); (0,0) comes too late, its places are taken.
         joined(aligner, ".xx", "x..");
-        Glosspair wide = alike(2, 4);
-        weigh(wide, 1, 0, 2, 2, 0);
+        Glosspair wide = Made.alike(2, 4);
+        Made.weigh(wide, 1, 0, 2, 2, 0);
         links(wide, 0, 0, 1, 0, 0);
         links(wide, 1, 2, 3);
         // From (0,2) grow (0,3) and (1,1), from that (0,0); (1,3) comes too late.
@@ -231,8 +215,8 @@ final class LinksTest {
     }
 
     private static void joinedGrowWhereOnePlaceIsFree() {
-        Glosspair aligner = alike(3, 3);
-        weigh(aligner, 0, 1, 0, 0, 0);
+        Glosspair aligner = Made.alike(3, 3);
+        Made.weigh(aligner, 0, 1, 0, 0, 0);
         links(aligner, 0, 1, 0, 1);
         links(aligner, 1, 1, 0, 1);
         // (0,1) and (1,0) are joined at first; (1,2) has its place of the side 1 free, (2,1) that of 0.
@@ -240,7 +224,7 @@ final class LinksTest {
     }
 
     private static void joinedRefusesWhatIsNotThere() {
-        Glosspair aligner = alike(1, 2);
+        Glosspair aligner = Made.alike(1, 2);
         for (int number : NO_NUMBERS) {
             Check.outOfBounds("isJoined of pair " + number, () -> ask(aligner, number, 0, 0));
             Check.outOfBounds("isJoined place " + number, () -> ask(aligner, 0, number, 0));

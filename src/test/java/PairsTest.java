@@ -85,7 +85,7 @@ final class PairsTest {
         Check.equal("wipe()", aligner.wipe(), 3);
         Check.equal("wipe() again", aligner.wipe(), 0);
         Check.illegalState("pair() after wipe()", () -> aligner.pair());
-        Check.pairOf(aligner, Check.words(4, 5), Check.words(6));
+        Made.pairOf(aligner, Made.words(4, 5), Made.words(6));
         aligner.put(1, 9);
         Check.equal("wipe() with a pair", aligner.wipe(), 1);
         Check.equal("pairs() after wipe()", aligner.pairs(), 1);
@@ -94,10 +94,10 @@ final class PairsTest {
 
     private static void pairTakesBothDrafts() {
         Glosspair aligner = new Glosspair();
-        Check.equal("the first", Check.pairOf(aligner, Check.words(1, 2), Check.words(3)), 0);
+        Check.equal("the first", Made.pairOf(aligner, Made.words(1, 2), Made.words(3)), 0);
         Check.equal("pairs()", aligner.pairs(), 1);
         Check.equal("wipe() after pair()", aligner.wipe(), 0);
-        Check.equal("the second", Check.pairOf(aligner, Check.words(7), Check.words(8, 9)), 1);
+        Check.equal("the second", Made.pairOf(aligner, Made.words(7), Made.words(8, 9)), 1);
         Check.equal("pairs()", aligner.pairs(), 2);
         Check.equal("the first's word", aligner.word(0, 0, 0), 1);
         Check.equal("the second's word", aligner.word(1, 1, 1), 9);
@@ -117,8 +117,8 @@ final class PairsTest {
     private static void pairRefusesTheTwentyFirst() {
         Glosspair aligner = new Glosspair();
         for (int number = 0; number < 20; number++) {
-            int[] sentence = Check.words(number % 15);
-            Check.equal("pair " + number, Check.pairOf(aligner, sentence, sentence), number);
+            int[] sentence = Made.words(number % 15);
+            Check.equal("pair " + number, Made.pairOf(aligner, sentence, sentence), number);
         }
         aligner.put(0, 1);
         aligner.put(1, 1);
@@ -136,8 +136,8 @@ final class PairsTest {
     private static void takeBackTakesOne() {
         Glosspair aligner = new Glosspair();
         Check.outOfBounds("takeBack(0) of none", () -> aligner.takeBack(0));
-        Check.pairOf(aligner, Check.words(1), Check.words(2));
-        Check.pairOf(aligner, Check.words(3), Check.words(4));
+        Made.pairOf(aligner, Made.words(1), Made.words(2));
+        Made.pairOf(aligner, Made.words(3), Made.words(4));
         for (int number : NO_PAIRS) {
             Check.outOfBounds("takeBack " + number, () -> aligner.takeBack(number));
         }
@@ -146,7 +146,7 @@ final class PairsTest {
         Check.outOfBounds("takeBack(0) again", () -> aligner.takeBack(0));
         Check.equal("pairs()", aligner.pairs(), 1);
         Check.equal("the other one stands", aligner.word(1, 0, 0), 3);
-        Check.equal("the next number", Check.pairOf(aligner, Check.words(5), Check.words(6)), 2);
+        Check.equal("the next number", Made.pairOf(aligner, Made.words(5), Made.words(6)), 2);
         Check.equal("takeBack(1)", aligner.takeBack(1), 1);
         Check.equal("takeBack(2)", aligner.takeBack(2), 0);
         Check.equal("pairs()", aligner.pairs(), 0);
@@ -154,8 +154,8 @@ final class PairsTest {
 
     private static void wordTellsWords() {
         Glosspair aligner = new Glosspair();
-        Check.pairOf(aligner, Check.words(14, 0, 14), Check.words(6, 5));
-        Check.pairOf(aligner, Check.words(1), Check.words(2));
+        Made.pairOf(aligner, Made.words(14, 0, 14), Made.words(6, 5));
+        Made.pairOf(aligner, Made.words(1), Made.words(2));
         Check.equal("word(0, 0, 0)", aligner.word(0, 0, 0), 14);
         Check.equal("word(0, 0, 1)", aligner.word(0, 0, 1), 0);
         Check.equal("word(0, 0, 2)", aligner.word(0, 0, 2), 14);

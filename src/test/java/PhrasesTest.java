@@ -16,18 +16,6 @@ final class PhrasesTest {
         Check.end();
     }
 
-    private static Glosspair alike(int first, int second, int... weights) {
-        Glosspair aligner = new Glosspair();
-        int[] firstWords = new int[first];
-        int[] secondWords = new int[second];
-        Check.pairOf(aligner, firstWords, secondWords);
-        aligner.begin();
-        for (int apart = 0; apart < weights.length; apart++) {
-            aligner.weight(apart, weights[apart]);
-        }
-        return aligner;
-    }
-
     private static void phrasesAre(Glosspair aligner, int[]... due) {
         Check.equal("phrases(0)", aligner.phrases(0), due.length);
         for (int phrase = 0; phrase < due.length; phrase++) {
@@ -44,46 +32,46 @@ final class PhrasesTest {
     }
 
     private static void phrasesOfADiagonal() {
-        phrasesAre(alike(3, 3),
+        phrasesAre(Made.alike(3, 3),
                 ends(0, 0, 0, 0), ends(0, 1, 0, 1), ends(0, 2, 0, 2),
                 ends(1, 1, 1, 1), ends(1, 2, 1, 2), ends(2, 2, 2, 2));
     }
 
     private static void phrasesTakePlacesWithoutLinks() {
         // Only the first places of both sides are joined.
-        Glosspair aligner = alike(3, 1, 9, 0, 5, 0, 0);
+        Glosspair aligner = Made.alike(3, 1, 9, 0, 5, 0, 0);
         phrasesAre(aligner, ends(0, 0, 0, 0), ends(0, 1, 0, 0), ends(0, 2, 0, 0));
-        Glosspair other = alike(1, 3, 9, 0, 5, 0, 0);
+        Glosspair other = Made.alike(1, 3, 9, 0, 5, 0, 0);
         phrasesAre(other, ends(0, 0, 0, 0), ends(0, 0, 0, 1), ends(0, 0, 0, 2));
         // Only places two apart are joined: the middle ones have no link.
-        Glosspair crossed = alike(3, 3, 0, 0, 1, 0, 0);
+        Glosspair crossed = Made.alike(3, 3, 0, 0, 1, 0, 0);
         phrasesAre(crossed,
                 ends(0, 0, 1, 2), ends(0, 0, 2, 2), ends(0, 1, 1, 2), ends(0, 1, 2, 2),
                 ends(0, 2, 0, 2), ends(1, 2, 0, 0), ends(1, 2, 0, 1), ends(2, 2, 0, 0), ends(2, 2, 0, 1));
     }
 
     private static void phrasesAreAtMostFourPlaces() {
-        Check.equal("phrases of a diagonal of 8", alike(8, 8).phrases(0), 8 + 7 + 6 + 5);
+        Check.equal("phrases of a diagonal of 8", Made.alike(8, 8).phrases(0), 8 + 7 + 6 + 5);
         // A place that is joined to 4 others has a phrase, one that is joined to 5 has none.
-        phrasesAre(alike(1, 4), ends(0, 0, 0, 3));
-        phrasesAre(alike(4, 1), ends(0, 3, 0, 0));
-        phrasesAre(alike(1, 5));
-        phrasesAre(alike(5, 1));
+        phrasesAre(Made.alike(1, 4), ends(0, 0, 0, 3));
+        phrasesAre(Made.alike(4, 1), ends(0, 3, 0, 0));
+        phrasesAre(Made.alike(1, 5));
+        phrasesAre(Made.alike(5, 1));
         // (0,0) alone is joined: its span of either side grows to 4 places.
-        Check.equal("phrases with 7 free places", alike(8, 1, 9, 0, 5, 0, 0).phrases(0), 4);
-        Check.equal("phrases with 7 free places", alike(1, 8, 9, 0, 5, 0, 0).phrases(0), 4);
+        Check.equal("phrases with 7 free places", Made.alike(8, 1, 9, 0, 5, 0, 0).phrases(0), 4);
+        Check.equal("phrases with 7 free places", Made.alike(1, 8, 9, 0, 5, 0, 0).phrases(0), 4);
     }
 
     private static void phrasesOfCrossedLinks() {
         // (0,1) and (1,0)
-        phrasesAre(alike(2, 2, 0, 1, 0, 0, 0), ends(0, 0, 1, 1), ends(0, 1, 0, 1), ends(1, 1, 0, 0));
+        phrasesAre(Made.alike(2, 2, 0, 1, 0, 0, 0), ends(0, 0, 1, 1), ends(0, 1, 0, 1), ends(1, 1, 0, 0));
         // (0,2), (0,1), (1,0)
-        phrasesAre(alike(2, 3, 1, 1, 2, 0, 0), ends(0, 0, 1, 2), ends(0, 1, 0, 2), ends(1, 1, 0, 0));
+        phrasesAre(Made.alike(2, 3, 1, 1, 2, 0, 0), ends(0, 0, 1, 2), ends(0, 1, 0, 2), ends(1, 1, 0, 0));
     }
 
     private static void phrasesOfNoLinks() {
         Glosspair aligner = new Glosspair();
-        Check.pairOf(aligner, Check.words(0, 1), Check.words(0, 1));
+        Made.pairOf(aligner, Made.words(0, 1), Made.words(0, 1));
         phrasesAre(aligner);
         aligner.begin();
         Check.equal("phrases(0) after begin", aligner.phrases(0), 3);
@@ -92,7 +80,7 @@ final class PhrasesTest {
     }
 
     private static void phrasesRefuseWhatIsNotThere() {
-        Glosspair aligner = alike(2, 2);
+        Glosspair aligner = Made.alike(2, 2);
         for (int number : NO_NUMBERS) {
             Check.outOfBounds("phrases of " + number, () -> aligner.phrases(number));
         }
@@ -102,7 +90,7 @@ final class PhrasesTest {
     }
 
     private static void phraseRefusesWhatIsNotThere() {
-        Glosspair aligner = alike(1, 1);
+        Glosspair aligner = Made.alike(1, 1);
         int[] noWhats = {-1, 4, Integer.MIN_VALUE, Integer.MAX_VALUE};
         for (int what : noWhats) {
             Check.illegalArgument("phrase what " + what, () -> aligner.phrase(0, 0, what));
@@ -120,17 +108,17 @@ final class PhrasesTest {
     }
 
     private static void fertilityCountsPlaces() {
-        Glosspair wide = alike(1, 8);
+        Glosspair wide = Made.alike(1, 8);
         for (int fertility = 0; fertility <= 8; fertility++) {
             Check.equal("fertility " + fertility, wide.fertility(0, fertility), fertility == 8 ? 1 : 0);
         }
-        Glosspair tall = alike(8, 1);
+        Glosspair tall = Made.alike(8, 1);
         Check.equal("fertility(0, 1) of 8 places", tall.fertility(0, 1), 8);
         Check.equal("fertility(0, 0) of 8 places", tall.fertility(0, 0), 0);
         tall.weight(4, 9);
         Check.equal("fertility(0, 0) without links", tall.fertility(0, 0), 8);
         // (0,2), (0,1), (1,0)
-        Glosspair crossed = alike(2, 3, 1, 1, 2, 0, 0);
+        Glosspair crossed = Made.alike(2, 3, 1, 1, 2, 0, 0);
         Check.equal("fertility(0, 2)", crossed.fertility(0, 2), 1);
         Check.equal("fertility(0, 1)", crossed.fertility(0, 1), 1);
         Check.equal("fertility(1, 0) of no word", crossed.fertility(1, 0), 0);
@@ -139,8 +127,8 @@ final class PhrasesTest {
     private static void fertilityCountsOverAllPairs() {
         Glosspair aligner = new Glosspair();
         Check.equal("fertility without pairs", aligner.fertility(14, 0), 0);
-        Check.pairOf(aligner, Check.words(3, 14), Check.words(5, 6));
-        Check.pairOf(aligner, Check.words(14), Check.words(5, 7));
+        Made.pairOf(aligner, Made.words(3, 14), Made.words(5, 6));
+        Made.pairOf(aligner, Made.words(14), Made.words(5, 7));
         Check.equal("fertility(14, 0) ahead of begin()", aligner.fertility(14, 0), 2);
         aligner.begin();
         Check.equal("fertility(14, 1)", aligner.fertility(14, 1), 1);
@@ -155,7 +143,7 @@ final class PhrasesTest {
     }
 
     private static void fertilityRefusesWhatIsNotThere() {
-        Glosspair aligner = alike(2, 2);
+        Glosspair aligner = Made.alike(2, 2);
         int[] noWords = {-1, 15, 16, Integer.MIN_VALUE, Integer.MAX_VALUE};
         for (int word : noWords) {
             Check.outOfBounds("fertility of word " + word, () -> aligner.fertility(word, 0));

@@ -21,7 +21,7 @@ final class SharesTest {
 
     private static void sharesAreZeroAtFirst() {
         Glosspair aligner = new Glosspair();
-        Check.pairOf(aligner, Check.words(0, 14), Check.words(0, 14));
+        Made.pairOf(aligner, Made.words(0, 14), Made.words(0, 14));
         int[] words = {0, 14, Glosspair.EMPTY};
         for (int word : words) {
             Check.equal("share(0) at first", aligner.share(0, word, 0), 0);
@@ -51,8 +51,8 @@ final class SharesTest {
 
     private static void beginGivesAlikeShares() {
         Glosspair aligner = new Glosspair();
-        Check.pairOf(aligner, Check.words(0, 1), Check.words(5, 6));
-        Check.pairOf(aligner, Check.words(1), Check.words(7, 5, 5, 8));
+        Made.pairOf(aligner, Made.words(0, 1), Made.words(5, 6));
+        Made.pairOf(aligner, Made.words(1), Made.words(7, 5, 5, 8));
         // Direction 0: 0 has 5 6; 1 and EMPTY have 5 6 7 8. Direction 1: 5, 6, EMPTY have 0 1; 7 8 have 1.
         Check.equal("begin()", aligner.begin(), 2 + 4 + 4 + 2 + 2 + 2 + 1 + 1);
         Check.equal("share(0, 0, 5)", aligner.share(0, 0, 5), 500000);
@@ -74,8 +74,8 @@ final class SharesTest {
 
     private static void beginGivesOneMoreToTheLowest() {
         Glosspair aligner = new Glosspair();
-        Check.pairOf(aligner, Check.words(3), Check.words(14, 13, 12, 11, 10, 9, 8));
-        Check.pairOf(aligner, Check.words(4), Check.words(7, 6, 5, 4, 3, 2, 1, 0));
+        Made.pairOf(aligner, Made.words(3), Made.words(14, 13, 12, 11, 10, 9, 8));
+        Made.pairOf(aligner, Made.words(4), Made.words(7, 6, 5, 4, 3, 2, 1, 0));
         Check.equal("begin()", aligner.begin(), 7 + 8 + 15 + 15 + 2);
         Check.equal("one of 7, the lowest", aligner.share(0, 3, 8), 142858);
         Check.equal("one of 7, the next", aligner.share(0, 3, 9), 142857);
@@ -89,8 +89,8 @@ final class SharesTest {
 
     private static void beginGoesByPairsThatAreThere() {
         Glosspair aligner = new Glosspair();
-        Check.pairOf(aligner, Check.words(0), Check.words(5));
-        Check.pairOf(aligner, Check.words(0, 1), Check.words(6));
+        Made.pairOf(aligner, Made.words(0), Made.words(5));
+        Made.pairOf(aligner, Made.words(0, 1), Made.words(6));
         Check.equal("begin()", aligner.begin(), 2 + 1 + 2 + 1 + 2 + 2);
         Check.equal("share(0, 0, 6)", aligner.share(0, 0, 6), 500000);
         aligner.takeBack(1);
@@ -106,17 +106,17 @@ final class SharesTest {
 
     private static void pairsAloneChangeNoShare() {
         Glosspair aligner = new Glosspair();
-        Check.pairOf(aligner, Check.words(0), Check.words(5));
+        Made.pairOf(aligner, Made.words(0), Made.words(5));
         aligner.begin();
-        Check.pairOf(aligner, Check.words(0), Check.words(6));
+        Made.pairOf(aligner, Made.words(0), Made.words(6));
         Check.equal("share(0, 0, 5)", aligner.share(0, 0, 5), 1000000);
         Check.equal("share(0, 0, 6)", aligner.share(0, 0, 6), 0);
     }
 
     private static void roundGivesNewShares() {
         Glosspair aligner = new Glosspair();
-        Check.pairOf(aligner, Check.words(0, 1), Check.words(3, 4));
-        Check.pairOf(aligner, Check.words(0), Check.words(3));
+        Made.pairOf(aligner, Made.words(0, 1), Made.words(3, 4));
+        Made.pairOf(aligner, Made.words(0), Made.words(3));
         aligner.begin();
         Check.equal("round()", aligner.round(), 8);
         // 0 counts 333333 + 500000 for 3, and 333333 for 4; 1 counts 333333 for either.
@@ -128,15 +128,15 @@ final class SharesTest {
         Check.equal("share(1, 4, 1)", aligner.share(1, 4, 1), 500000);
         Check.equal("round() again", aligner.round(), 12);
         Glosspair settled = new Glosspair();
-        Check.pairOf(settled, Check.words(0), Check.words(3));
+        Made.pairOf(settled, Made.words(0), Made.words(3));
         settled.begin();
         Check.equal("a round that changes nothing", settled.round(), 0);
     }
 
     private static void roundTakesTheFirstAndTheLastWords() {
         Glosspair aligner = new Glosspair();
-        Check.pairOf(aligner, Check.words(0, 14), Check.words(0, 14));
-        Check.pairOf(aligner, Check.words(0), Check.words(0));
+        Made.pairOf(aligner, Made.words(0, 14), Made.words(0, 14));
+        Made.pairOf(aligner, Made.words(0), Made.words(0));
         Check.equal("begin()", aligner.begin(), 12);
         Check.equal("round()", aligner.round(), 8);
         for (int direction = 0; direction < 2; direction++) {
@@ -151,8 +151,8 @@ final class SharesTest {
 
     private static void roundCountsAWordAtTwoPlacesTwice() {
         Glosspair aligner = new Glosspair();
-        Check.pairOf(aligner, Check.words(0, 0), Check.words(3));
-        Check.pairOf(aligner, Check.words(0), Check.words(4));
+        Made.pairOf(aligner, Made.words(0, 0), Made.words(3));
+        Made.pairOf(aligner, Made.words(0), Made.words(4));
         aligner.begin();
         aligner.round();
         // For 3, S is 1500000, and 0 adds 333333 twice; for 4, S is 1000000, and 0 adds 500000.
@@ -165,8 +165,8 @@ final class SharesTest {
 
     private static void roundGoesByTheSharesAhead() {
         Glosspair aligner = new Glosspair();
-        Check.pairOf(aligner, Check.words(0, 1), Check.words(5));
-        Check.pairOf(aligner, Check.words(0), Check.words(6));
+        Made.pairOf(aligner, Made.words(0, 1), Made.words(5));
+        Made.pairOf(aligner, Made.words(0), Made.words(6));
         aligner.begin();
         // 0 and EMPTY have 500000 for 5 and for 6, 1 has 1000000 for 5; S for 5 is 2000000.
         aligner.round();
@@ -179,8 +179,8 @@ final class SharesTest {
 
     private static void roundGivesWhatIsMissingToTheGreatestRests() {
         Glosspair aligner = new Glosspair();
-        Check.pairOf(aligner, Check.words(0), Check.words(5, 6, 6));
-        Check.pairOf(aligner, Check.words(0), Check.words(7, 7, 7, 7));
+        Made.pairOf(aligner, Made.words(0), Made.words(5, 6, 6));
+        Made.pairOf(aligner, Made.words(0), Made.words(7, 7, 7, 7));
         aligner.begin();
         aligner.round();
         // Counts are as 1, 2 and 4 of 7: 142857 and rest 1, 285714 and rest 2, 571428 and rest 4.
@@ -191,7 +191,7 @@ final class SharesTest {
 
     private static void roundGivesAlikeRestsToTheLowest() {
         Glosspair aligner = new Glosspair();
-        Check.pairOf(aligner, Check.words(0), Check.words(9, 8, 7));
+        Made.pairOf(aligner, Made.words(0), Made.words(9, 8, 7));
         aligner.begin();
         Check.equal("share(0, 0, 7)", aligner.share(0, 0, 7), 333334);
         // Each counts 500000, so a third of the million again.
@@ -203,16 +203,16 @@ final class SharesTest {
 
     private static void roundWithoutSharesGivesNone() {
         Glosspair aligner = new Glosspair();
-        Check.pairOf(aligner, Check.words(0, 1), Check.words(5));
+        Made.pairOf(aligner, Made.words(0, 1), Made.words(5));
         Check.equal("round() ahead of begin()", aligner.round(), 0);
         Check.equal("share(0, 0, 5)", aligner.share(0, 0, 5), 0);
     }
 
     private static void roundSkipsPlacesWithoutShares() {
         Glosspair aligner = new Glosspair();
-        Check.pairOf(aligner, Check.words(0), Check.words(5));
+        Made.pairOf(aligner, Made.words(0), Made.words(5));
         aligner.begin();
-        Check.pairOf(aligner, Check.words(1, 0), Check.words(5, 6));
+        Made.pairOf(aligner, Made.words(1, 0), Made.words(5, 6));
         Check.equal("round()", aligner.round(), 0);
         Check.equal("share(0, 0, 5)", aligner.share(0, 0, 5), 1000000);
         Check.equal("share(0, 0, 6)", aligner.share(0, 0, 6), 0);
@@ -222,7 +222,7 @@ final class SharesTest {
 
     private static void roundWithoutPairsTakesAllShares() {
         Glosspair aligner = new Glosspair();
-        Check.pairOf(aligner, Check.words(0, 1), Check.words(5));
+        Made.pairOf(aligner, Made.words(0, 1), Made.words(5));
         Check.equal("begin()", aligner.begin(), 3 + 4);
         aligner.takeBack(0);
         Check.equal("share(0, 1, 5) after takeBack", aligner.share(0, 1, 5), 1000000);
